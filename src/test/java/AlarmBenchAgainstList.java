@@ -153,8 +153,8 @@ public final class AlarmBenchAgainstList {
     private boolean differs(int run) {
         for (int call = 1; call <= CALLS; call++) {
             int kind = Math.max(0, random.nextInt(14 + settingWeight) - settingWeight);
-            int one = kind == 0 || kind == 13 ? ahead() : kind == 3 ? passing() : kind == 4 ? tells() : number();
-            int two = kind == 0 || kind == 13 ? tells() : kind == 1 ? ahead() : random.nextInt(12) == 0 ? 2 - random.nextInt(2) * 3 : random.nextInt(2);
+            int one = firstFor(kind);
+            int two = secondFor(kind);
             long want = ofPlain(kind, one, two);
             long got = ofBench(kind, one, two);
             if (got != want) {
@@ -164,6 +164,23 @@ public final class AlarmBenchAgainstList {
             }
         }
         return false;
+    }
+
+    private int firstFor(int kind) {
+        switch (kind) {
+            case 0: case 13: return ahead();
+            case 3: return passing();
+            case 4: return tells();
+            default: return number();
+        }
+    }
+
+    private int secondFor(int kind) {
+        switch (kind) {
+            case 0: case 13: return tells();
+            case 1: return ahead();
+            default: return random.nextInt(8) == 0 ? random.nextInt(5) - 2 : random.nextInt(2);
+        }
     }
 
     private int ahead() {
