@@ -1,8 +1,8 @@
 import java.util.function.Supplier;
 
 /**
- * Each sentence of the document that names a boundary case has a method of its own here, in the document's order,
- * with the sentence above it. Where a case lies behind the 512th call, the method says so: it is not promised there,
+ * Each sentence of the document that names a boundary case has a method of its own here, or several, in the
+ * document's order, with the sentence above the first. Where a case lies behind the 512th call, nothing is promised,
  * but the class keeps to it.
  */
 public final class AlarmBenchEdges {
