@@ -1,6 +1,6 @@
 /**
- * Alarms that are set for some time ahead, shifted and stopped; as time passes,
- * they come one by one in their order.
+ * Alarms that are set for some time ahead, shifted and stopped; as time passes, however far at once,
+ * they come one by one in their order, and none comes twice or never.
  */
 public final class AlarmBench {
     public static final int NONE = -1;

@@ -2,8 +2,8 @@ import java.util.function.Supplier;
 
 /**
  * Each sentence of the document that names a boundary case has a method of its own here, or several, in the
- * document's order, with the sentence above the first. Where a case lies behind the 512th call, nothing is promised,
- * but the class keeps to it.
+ * document's order, with the sentence above the first. No bench is called more than 512 times, for what later calls
+ * answer is free; the cases that only come up behind them are in AlarmBenchBehind.
  */
 public final class AlarmBenchEdges {
     private static final int ARGUMENT = 1;
@@ -23,6 +23,9 @@ public final class AlarmBenchEdges {
         2 * MOST_PASS, LAST, LAST + 1, MOST_INT};
     private static final int[] WRONG_WHAT = {LEAST_INT, -2, -1, 2, 3, 256, 65536, 65537, MOST_INT};
     private static final int[] ANY_INT = {LEAST_INT, LEAST_INT + 1, -2, -1, 0, 1, 511, 512, LAST + 1, MOST_INT};
+
+    /** More alarms than a bench has on which a call is refused, few enough for all to be looked at in 512 calls. */
+    private static final int MOST_SEEN = 20;
 
     private static int wrong = 0;
 
@@ -44,8 +47,8 @@ public final class AlarmBenchEdges {
     private static void terms() {
         timeIsAtFirst0();
         timeOnlyGrows();
-        timeGrowsTo1000000000();
         numbersAre0To511();
+        highNumbersAreLikeOthers();
         ranksAreAsSet();
         ranksAreAsShifted();
         aNumberUsedAgainHasANewRank();
@@ -55,9 +58,7 @@ public final class AlarmBenchEdges {
         noSuchAlarmOutOfRange();
         noSuchAlarmAnyMore();
         argumentIsNamedBeforeState();
-        argumentIsNamedBeforeFull();
         aThrowChangesNothing();
-        aThrowChangesNothingWhenFull();
         aThrowKeepsTheOrder();
     }
 
@@ -67,7 +68,6 @@ public final class AlarmBenchEdges {
         setRefusesOtherTicks();
         setTellsAnyInt();
         setGivesTheLeastFreeNumber();
-        setRefusesA513th();
         setRefusesBehind1000000000();
         shiftTakes0And1000000000();
         shiftTellsInHowManyItWasDue();
@@ -88,7 +88,6 @@ public final class AlarmBenchEdges {
         stopAllOfAll();
         passTakes0And200000();
         passRefusesOtherTicks();
-        passRefusesBehind1000000000();
     }
 
     private static void ringAndLooks() {
@@ -110,7 +109,7 @@ public final class AlarmBenchEdges {
         aboutRefusesOtherWhats();
         countIs0IfThereIsNone();
         countOfReadyAtTheEdge();
-        countOf512();
+        countOfMany();
         timeIsAsPassed();
     }
 
@@ -147,12 +146,12 @@ public final class AlarmBenchEdges {
         }
     }
 
-    /** All that can be seen now, and then which numbers come as alarms are set and ring; it makes over 1000 calls. */
+    /** All that can be seen now, and then which numbers come as alarms are set and ring. */
     private static String allThatFollows(AlarmBench bench) {
         StringBuilder text = new StringBuilder();
         text.append(bench.time()).append(' ').append(bench.count(false)).append(' ').append(bench.count(true));
         text.append(' ').append(bench.next()).append(' ').append(bench.told()).append(' ').append(bench.wasDue());
-        for (int alarm = 0; alarm < 512; alarm++) {
+        for (int alarm = 0; alarm < MOST_SEEN; alarm++) {
             int number = alarm;
             if (thrownBy(bench, b -> b.about(number, 0)) == 0) {
                 text.append(" [").append(alarm).append(": ").append(bench.about(alarm, 0));
@@ -160,10 +159,9 @@ public final class AlarmBenchEdges {
             }
         }
         text.append(" sets ").append(thrownBy(bench, b -> b.set(0, 5)));
-        text.append(" passes ").append(thrownBy(bench, b -> b.pass(Math.min(MOST_PASS, LAST - b.time()))));
+        text.append(" passes ").append(thrownBy(bench, b -> b.pass(MOST_PASS)));
         text.append(" rings");
-        // A bench that rings for ever must fail here, not hang.
-        for (int call = 0; call <= 512; call++) {
+        for (int call = 0; call <= MOST_SEEN; call++) {
             text.append(' ').append(bench.ring()).append(' ').append(bench.told()).append(' ').append(bench.wasDue());
         }
         return text.append(" left ").append(bench.count(false)).toString();
@@ -191,21 +189,12 @@ public final class AlarmBenchEdges {
         return bench;
     }
 
-    private static AlarmBench full() {
+    /** So many alarms, two due at each time from 0 on, telling their numbers. */
+    private static AlarmBench many(int alarms) {
         AlarmBench bench = new AlarmBench();
-        for (int alarm = 0; alarm < 512; alarm++) {
-            due("full: set", bench.set(alarm / 2, alarm), alarm);
+        for (int alarm = 0; alarm < alarms; alarm++) {
+            due("many: set", bench.set(alarm / 2, alarm), alarm);
         }
-        return bench;
-    }
-
-    /** As late as can be, less some ticks: far behind the 512th call. */
-    private static AlarmBench late(int before) {
-        AlarmBench bench = with(LAST, 7);
-        for (int call = 1; call < LAST / MOST_PASS; call++) {
-            due("late: pass", bench.pass(MOST_PASS), call * MOST_PASS);
-        }
-        due("late: last pass", bench.pass(MOST_PASS - before), LAST - before);
         return bench;
     }
 
@@ -236,30 +225,26 @@ public final class AlarmBenchEdges {
         due("grows: not back", bench.time(), time);
     }
 
-    // .. to 1000000000. (Behind the 512th call.)
-    private static void timeGrowsTo1000000000() {
-        AlarmBench bench = late(1);
-        due("to the last: pass(1)", bench.pass(1), LAST);
-        due("to the last: time()", bench.time(), LAST);
-        due("to the last: pass(0)", bench.pass(0), LAST);
-        due("to the last: set(0)", bench.set(0, 1), 2);
-        due("to the last: shift(1, 0)", bench.shift(1, 0), 7 - LAST);
-        due("to the last: count(true)", bench.count(true), 3);
-        dueRings("to the last", bench, 0, 2, 1);
-        due("to the last: wasDue()", bench.wasDue(), LAST);
+    // There are at most 512 ALARMS, with the numbers 0 .. 511.
+    private static void numbersAre0To511() {
+        many(512);
     }
 
-    // There are at most 512 ALARMS, with the numbers 0 .. 511. (What is done with them: behind the 512th call.)
-    private static void numbersAre0To511() {
-        AlarmBench bench = full();
-        due("numbers: about(511, 1)", bench.about(511, 1), 511);
-        due("numbers: about(511, 0)", bench.about(511, 0), 255);
-        due("numbers: shift(511, 0)", bench.shift(511, 0), 255);
-        due("numbers: stop(510)", bench.stop(510), 510);
-        due("numbers: set takes 510", bench.set(0, 1), 510);
-        due("numbers: pass", bench.pass(255), 255);
-        for (int alarm : new int[] {0, 1, 511, 510, 2, 3}) {
-            due("numbers: ring()", bench.ring(), alarm);
+    private static void highNumbersAreLikeOthers() {
+        due("high: about(509, 0)", many(510).about(509, 0), 254);
+        due("high: about(510, 0)", many(511).about(510, 0), 255);
+        due("high: about(510, 1)", many(511).about(510, 1), 510);
+        due("high: about(511, 0) throws", thrownBy(many(511), b -> b.about(511, 0)), ARGUMENT);
+        due("high: shift(510, 9)", many(511).shift(510, 9), 255);
+        due("high: stop(510)", many(511).stop(510), 510);
+        due("high: ring()", many(511).ring(), 0);
+        AlarmBench bench = many(510);
+        due("high: stop(509)", bench.stop(509), 509);
+        due("high: set takes 509", bench.set(0, 1), 509);
+        bench = many(508);
+        due("high: shift(507, 0)", bench.shift(507, 0), 253);
+        for (int alarm : new int[] {0, 1, 507}) {
+            due("high: ring()", bench.ring(), alarm);
         }
     }
 
@@ -340,9 +325,6 @@ public final class AlarmBenchEdges {
         for (int alarm : NEVER_THERE) {
             dueNoAlarm("not there", AlarmBenchEdges::busy, alarm);
         }
-        // All places are taken: only the number itself can be what is wrong. (Behind the 512th call.)
-        dueNoAlarm("full", AlarmBenchEdges::full, 512);
-        dueNoAlarm("full", AlarmBenchEdges::full, NONE);
     }
 
     private static void noSuchAlarmAnyMore() {
@@ -361,12 +343,13 @@ public final class AlarmBenchEdges {
 
     // Of several exceptions the one named first is thrown.
     private static void argumentIsNamedBeforeState() {
+        // At time 20, the greatest of these ticks would also lead behind the last time.
         for (int ticks : WRONG_AHEAD) {
-            refused("first named: set(" + ticks + ")", () -> late(0), ARGUMENT, b -> b.set(ticks, 1));
-            refused("first named: shift(0, " + ticks + ")", () -> late(0), ARGUMENT, b -> b.shift(0, ticks));
+            refused("first named: set(" + ticks + ")", AlarmBenchEdges::busy, ARGUMENT, b -> b.set(ticks, 1));
+            refused("first named: shift(0, " + ticks + ")", AlarmBenchEdges::busy, ARGUMENT, b -> b.shift(0, ticks));
         }
         for (int ticks : WRONG_PASS) {
-            refused("first named: pass(" + ticks + ")", () -> late(0), ARGUMENT, b -> b.pass(ticks));
+            refused("first named: pass(" + ticks + ")", AlarmBenchEdges::busy, ARGUMENT, b -> b.pass(ticks));
         }
         for (int alarm : NEVER_THERE) {
             refused("first named: shift(" + alarm + ", last)", AlarmBenchEdges::busy, ARGUMENT,
@@ -375,12 +358,6 @@ public final class AlarmBenchEdges {
                 b -> b.shift(alarm, -1));
             refused("first named: about(" + alarm + ", 2)", AlarmBenchEdges::busy, ARGUMENT,
                 b -> b.about(alarm, 2));
-        }
-    }
-
-    private static void argumentIsNamedBeforeFull() {
-        for (int ticks : WRONG_AHEAD) {
-            refused("full: set(" + ticks + ")", AlarmBenchEdges::full, ARGUMENT, b -> b.set(ticks, 1));
         }
     }
 
@@ -396,13 +373,6 @@ public final class AlarmBenchEdges {
             refused("throws: shift(" + alarm + ", last)", AlarmBenchEdges::busy, STATE, b -> b.shift(number, LAST));
             refused("throws: about(" + alarm + ", 2)", AlarmBenchEdges::busy, ARGUMENT, b -> b.about(number, 2));
         }
-    }
-
-    private static void aThrowChangesNothingWhenFull() {
-        refused("full: set(0)", AlarmBenchEdges::full, STATE, b -> b.set(0, 1));
-        refused("late: set(2)", () -> late(1), STATE, b -> b.set(2, 1));
-        refused("late: shift(1, 2)", () -> late(1), STATE, b -> b.shift(1, 2));
-        refused("late: pass(2)", () -> late(1), STATE, b -> b.pass(2));
     }
 
     private static void aThrowKeepsTheOrder() {
@@ -473,19 +443,7 @@ public final class AlarmBenchEdges {
         }
     }
 
-    // Illegal state: there are 512 .. (Behind the 512th call.)
-    private static void setRefusesA513th() {
-        refused("a 513th", AlarmBenchEdges::full, STATE, b -> b.set(0, 1));
-        refused("a 513th, last time", AlarmBenchEdges::full, STATE, b -> b.set(LAST, 1));
-        AlarmBench bench = full();
-        due("full: ring()", bench.ring(), 0);
-        due("full: one is free", bench.set(9, 1), 0);
-        due("full: none is free", thrownBy(bench, b -> b.set(9, 1)), STATE);
-        due("full: stopAll(300)", bench.stopAll(300), 1);
-        due("full: another is free", bench.set(9, 1), 300);
-    }
-
-    // .. or it would be due behind 1000000000.
+    // Illegal state: .. or it would be due behind 1000000000.
     private static void setRefusesBehind1000000000() {
         Supplier<AlarmBench> at20 = AlarmBenchEdges::busy;
         refused("behind: set(last - 19)", at20, STATE, b -> b.set(LAST - 19, 1));
@@ -494,8 +452,6 @@ public final class AlarmBenchEdges {
         AlarmBench bench = busy();
         due("behind: set(last - 20)", bench.set(LAST - 20, 1), 7);
         due("behind: due at the last time", bench.about(7, 0), LAST);
-        refused("behind, at the last time: set(1)", () -> late(0), STATE, b -> b.set(1, 1));
-        refused("behind, at the last time: set(last)", () -> late(0), STATE, b -> b.set(LAST, 1));
     }
 
     // Promise 3: Illegal argument: also if ticks is not 0 .. 1000000000.
@@ -555,7 +511,6 @@ public final class AlarmBenchEdges {
             due("behind: shift(" + alarm + ", last - 20)", bench.shift(alarm, LAST - 20), was);
             due("behind: due at the last time", bench.about(alarm, 0), LAST);
         }
-        refused("behind, at the last time: shift(0, 1)", () -> late(0), STATE, b -> b.shift(0, 1));
     }
 
     private static void shiftOfOneThatWasDue() {
@@ -646,12 +601,16 @@ public final class AlarmBenchEdges {
             due("all: set", bench.set(alarm, LEAST_INT), alarm);
         }
         due("all: stopAll", bench.stopAll(LEAST_INT), 511);
-        // Behind the 512th call.
-        for (int alarm = 0; alarm < 512; alarm++) {
+
+        bench = new AlarmBench();
+        for (int alarm = 0; alarm < 250; alarm++) {
+            due("all: set some", bench.set(alarm, MOST_INT), alarm);
+        }
+        due("all: stopAll some", bench.stopAll(MOST_INT), 250);
+        due("all: count", bench.count(false), 0);
+        for (int alarm = 0; alarm < 250; alarm++) {
             due("all: set again", bench.set(alarm, MOST_INT), alarm);
         }
-        due("all: stopAll of 512", bench.stopAll(MOST_INT), 512);
-        due("all: count", bench.count(false), 0);
     }
 
     // Promise 6: Illegal argument: ticks is not 0 .. 200000.
@@ -669,14 +628,6 @@ public final class AlarmBenchEdges {
             refused("new: pass(" + ticks + ")", AlarmBench::new, ARGUMENT, b -> b.pass(ticks));
             refused("pass(" + ticks + ")", AlarmBenchEdges::busy, ARGUMENT, b -> b.pass(ticks));
         }
-    }
-
-    // Illegal state: it would be behind 1000000000. (Behind the 512th call.)
-    private static void passRefusesBehind1000000000() {
-        refused("one behind: pass(6)", () -> late(5), STATE, b -> b.pass(6));
-        refused("far behind: pass(200000)", () -> late(5), STATE, b -> b.pass(MOST_PASS));
-        refused("at the last time: pass(1)", () -> late(0), STATE, b -> b.pass(1));
-        due("up to the last time: pass(5)", late(5).pass(5), LAST);
     }
 
     // Promise 7: NONE if there is none.
@@ -713,22 +664,15 @@ public final class AlarmBenchEdges {
     // .. and none comes twice or never.
     private static void ringTakesEachOnce() {
         AlarmBench bench = new AlarmBench();
-        for (int alarm = 0; alarm < 250; alarm++) {
-            due("once: set", bench.set(alarm * 7919 % 250 * 800, alarm), alarm);
+        int[] inOrder = new int[255];
+        for (int alarm = 0; alarm < 255; alarm++) {
+            int place = alarm * 7919 % 255;
+            inOrder[place] = alarm;
+            due("once: set", bench.set(place * 784, alarm), alarm);
         }
         due("once: pass", bench.pass(MOST_PASS), MOST_PASS);
-        boolean[] rang = new boolean[512];
-        int before = 0;
-        for (int call = 0; call < 250; call++) {
-            int alarm = bench.ring();
-            if (alarm < 0 || alarm > 511 || rang[alarm] || bench.wasDue() < before) {
-                due("once: ring() takes one that has not been, in order", alarm, NONE - 1);
-                return;
-            }
-            rang[alarm] = true;
-            before = bench.wasDue();
-        }
-        due("once: none is left", bench.ring(), NONE);
+        // With the last ring() these are 512 calls.
+        dueRings("once", bench, inOrder);
     }
 
     // .. its number, which no alarm has then.
@@ -797,16 +741,13 @@ public final class AlarmBenchEdges {
         due("stays: wasDue() behind others", bench.wasDue(), 4);
     }
 
-    // When that was due. (The last time: behind the 512th call.)
+    // When that was due.
     private static void wasDueOf0AndLater() {
         AlarmBench bench = passed(with(0, MOST_PASS), MOST_PASS);
         due("when: ring()", bench.ring(), 0);
         due("when: wasDue() of time 0", bench.wasDue(), 0);
         due("when: ring() again", bench.ring(), 1);
         due("when: wasDue() of now", bench.wasDue(), MOST_PASS);
-        bench = late(0);
-        dueRings("when, late", bench, 1, 0);
-        due("when: wasDue() of the last time", bench.wasDue(), LAST);
     }
 
     // Promise 10: NONE if there is none.
@@ -872,16 +813,11 @@ public final class AlarmBenchEdges {
         due("at time 0: count(true)", with(0, 1, 0).count(true), 2);
     }
 
-    private static void countOf512() {
-        AlarmBench bench = new AlarmBench();
-        for (int alarm = 0; alarm < 510; alarm++) {
-            due("count: set", bench.set(alarm % 2, alarm), alarm);
-        }
-        due("count(true) of 510", bench.count(true), 255);
-        due("count(false) of 510", bench.count(false), 510);
-        // Behind the 512th call.
-        due("count(false) of 512", full().count(false), 512);
-        due("count(true) of 512", passed(full(), 255).count(true), 512);
+    private static void countOfMany() {
+        due("count(false) of 511", many(511).count(false), 511);
+        due("count(true) of 511, at first", many(511).count(true), 2);
+        due("count(true) of 510, later", passed(many(510), 200).count(true), 402);
+        due("count(true) of 510, all", passed(many(510), 254).count(true), 510);
     }
 
     // Promise 13: The time.

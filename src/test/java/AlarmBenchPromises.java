@@ -1,4 +1,7 @@
-/** One method for each promise: ordinary inputs, the edges that the document names, wrong inputs. */
+/**
+ * One method for each promise: ordinary inputs, the edges that the document names, wrong inputs. No bench is called
+ * more than 512 times, for what later calls answer is free.
+ */
 public final class AlarmBenchPromises {
     private static final int ARGUMENT = 1;
     private static final int STATE = 2;
@@ -15,13 +18,12 @@ public final class AlarmBenchPromises {
     public static void main(String[] args) {
         aNewObject();
         set();
-        setFull();
+        set512();
         shift();
         shiftRanks();
         stop();
         stopAll();
         pass();
-        passToTheEnd();
         ring();
         ringFarPast();
         told();
@@ -31,6 +33,7 @@ public final class AlarmBenchPromises {
         count();
         time();
         objectsAreApart();
+        exampleOfReadme();
         System.out.println(wrong == 0 ? "all answers are as due" : wrong + " answers are not as due");
         if (wrong != 0) {
             System.exit(1);
@@ -88,6 +91,12 @@ public final class AlarmBenchPromises {
         return bench;
     }
 
+    private static AlarmBench twoAt40() {
+        AlarmBench bench = two();
+        due("pass(40)", bench.pass(40), 40);
+        return bench;
+    }
+
     private static void aNewObject() {
         AlarmBench bench = new AlarmBench();
         due("new: NONE", AlarmBench.NONE, -1);
@@ -130,19 +139,11 @@ public final class AlarmBenchPromises {
         due("set: behind all", bench.set(1, 7), 4);
     }
 
-    /** All 512 alarms; what comes behind the 512th call is not promised, but the limit must hold. */
-    private static void setFull() {
+    private static void set512() {
         AlarmBench bench = new AlarmBench();
         for (int alarm = 0; alarm < 512; alarm++) {
             due("set: number " + alarm, bench.set(512 - alarm, alarm), alarm);
         }
-        dueThrow("set: a 513th", bench, STATE, b -> b.set(1, 1));
-        dueThrow("set: a 513th, argument first", bench, ARGUMENT, b -> b.set(-1, 1));
-        due("set: count when full", bench.count(false), 512);
-        due("set: stop the last", bench.stop(511), 511);
-        due("set: the last again", bench.set(0, 1), 511);
-        due("set: ring the last", bench.ring(), 511);
-        due("set: and once more", bench.set(0, 1), 511);
     }
 
     private static void shift() {
@@ -165,8 +166,9 @@ public final class AlarmBenchPromises {
             dueThrow("shift(0, " + ticks + ")", bench, ARGUMENT, b -> b.shift(0, ticks));
         }
         for (int alarm : NO_ALARMS) {
-            dueThrow("shift(" + alarm + ", 1)", bench, ARGUMENT, b -> b.shift(alarm, 1));
-            dueThrow("shift(" + alarm + ", 1000000000)", bench, ARGUMENT, b -> b.shift(alarm, LAST));
+            AlarmBench later = twoAt40();
+            dueThrow("shift(" + alarm + ", 1)", later, ARGUMENT, b -> b.shift(alarm, 1));
+            dueThrow("shift(" + alarm + ", 1000000000)", later, ARGUMENT, b -> b.shift(alarm, LAST));
         }
         AlarmBench fresh = two();
         due("shift: all the time", fresh.shift(0, LAST), 10);
@@ -245,24 +247,6 @@ public final class AlarmBenchPromises {
         }
         due("pass: on", bench.pass(9), 200010);
         due("pass: alarms wait", bench.count(true), 2);
-    }
-
-    /** The last time lies behind the 512th call, where nothing is promised, but time must not pass it. */
-    private static void passToTheEnd() {
-        AlarmBench bench = new AlarmBench();
-        for (int call = 1; call <= 4999; call++) {
-            due("pass: to the end", bench.pass(200000), call * 200000);
-        }
-        due("pass: nearly the end", bench.pass(199999), LAST - 1);
-        dueThrow("pass: behind the end", bench, STATE, b -> b.pass(2));
-        dueThrow("pass: argument before state", bench, ARGUMENT, b -> b.pass(200001));
-        dueThrow("set: behind the end", bench, STATE, b -> b.set(2, 1));
-        due("pass: the end", bench.pass(1), LAST);
-        due("pass: no more", bench.pass(0), LAST);
-        dueThrow("pass: from the end", bench, STATE, b -> b.pass(1));
-        due("set: at the end", bench.set(0, 1), 0);
-        dueThrow("shift: behind the end", bench, STATE, b -> b.shift(0, 1));
-        due("ring: at the end", bench.ring(), 0);
     }
 
     private static void ring() {
@@ -374,15 +358,16 @@ public final class AlarmBenchPromises {
         due("about(0, 0)", bench.about(0, 0), 10);
         due("about(0, 1)", bench.about(0, 1), 100);
         due("about(1, 1)", bench.about(1, 1), 101);
-        bench.pass(40);
+        bench = twoAt40();
         due("about: due before now", bench.about(1, 0), 10);
         for (int what : new int[] {Integer.MIN_VALUE, -1, 2, 3, Integer.MAX_VALUE}) {
             dueThrow("about(0, " + what + ")", bench, ARGUMENT, b -> b.about(0, what));
         }
         for (int alarm : NO_ALARMS) {
-            dueThrow("about(" + alarm + ", 0)", bench, ARGUMENT, b -> b.about(alarm, 0));
-            dueThrow("about(" + alarm + ", 1)", bench, ARGUMENT, b -> b.about(alarm, 1));
-            dueThrow("about(" + alarm + ", 2)", bench, ARGUMENT, b -> b.about(alarm, 2));
+            AlarmBench later = twoAt40();
+            dueThrow("about(" + alarm + ", 0)", later, ARGUMENT, b -> b.about(alarm, 0));
+            dueThrow("about(" + alarm + ", 1)", later, ARGUMENT, b -> b.about(alarm, 1));
+            dueThrow("about(" + alarm + ", 2)", later, ARGUMENT, b -> b.about(alarm, 2));
         }
     }
 
@@ -431,5 +416,26 @@ public final class AlarmBenchPromises {
         due("apart: wasDue", other.wasDue(), -1);
         due("apart: number", other.set(1, 1), 0);
         due("apart: the first one's", one.about(1, 0), 10);
+    }
+
+    /** The example of README.md, row by row. */
+    private static void exampleOfReadme() {
+        AlarmBench bench = new AlarmBench();
+        int tea = bench.set(5, 70);
+        due("readme: set(5, 70)", tea, 0);
+        int bread = bench.set(5, 71);
+        due("readme: set(5, 71)", bread, 1);
+        due("readme: pass(9)", bench.pass(9), 9);
+        due("readme: count(true)", bench.count(true), 2);
+        due("readme: ring()", bench.ring(), tea);
+        due("readme: told()", bench.told(), 70);
+        due("readme: wasDue()", bench.wasDue(), 5);
+        due("readme: shift(bread, 3)", bench.shift(bread, 3), -4);
+        due("readme: ring(), none is due", bench.ring(), AlarmBench.NONE);
+        due("readme: told() stays", bench.told(), 70);
+        due("readme: next()", bench.next(), 12);
+        due("readme: about(bread, 0)", bench.about(bread, 0), 12);
+        due("readme: stop(bread)", bench.stop(bread), 71);
+        due("readme: next(), none", bench.next(), AlarmBench.NONE);
     }
 }
